@@ -272,10 +272,12 @@ public final class BeggarPile {
         if (!within(i, 0, images.length - 1)) {
             return refusedBad();
         }
-        if (images[i] == null) {
-            images[i] = new Game();
+        Game kept = images[i];
+        if (kept == null) {
+            kept = new Game();
+            images[i] = kept;
         }
-        images[i].copyFrom(now);
+        kept.copyFrom(now);
         return 1;
     }
 
@@ -283,10 +285,11 @@ public final class BeggarPile {
         if (!within(i, 0, images.length - 1)) {
             return refusedBad();
         }
-        if (images[i] == null) {
+        Game kept = images[i];
+        if (kept == null) {
             return refusedNo();
         }
-        now.copyFrom(images[i]);
+        now.copyFrom(kept);
         return 1;
     }
 
@@ -656,7 +659,7 @@ public final class BeggarPile {
         private int size = 0;
 
         History() {
-            for (int i = 0; i < kept.length; i++) {
+            for (int i = 0; i < MOST; i++) {
                 kept[i] = new Table();
             }
         }
@@ -675,22 +678,28 @@ public final class BeggarPile {
                 oldest = (oldest + 1) % MOST;
                 size--;
             }
-            kept[(oldest + size) % MOST].copyFrom(table);
+            copyTable(kept[(oldest + size) % MOST], table);
             size++;
         }
 
         void bringBack(Table table) {
             if (size > 0) {
                 size--;
-                table.copyFrom(kept[(oldest + size) % MOST]);
+                copyTable(table, kept[(oldest + size) % MOST]);
             }
         }
 
         void copyFrom(History other) {
             oldest = other.oldest;
             size = other.size;
-            for (int i = 0; i < kept.length; i++) {
-                kept[i].copyFrom(other.kept[i]);
+            for (int i = 0; i < MOST; i++) {
+                copyTable(kept[i], other.kept[i]);
+            }
+        }
+
+        private static void copyTable(Table into, Table source) {
+            if (into != null && source != null) {
+                into.copyFrom(source);
             }
         }
     }

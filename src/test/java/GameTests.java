@@ -1,5 +1,8 @@
 /** Promises 1 to 7: a new object, game, player, deals, type, clear, read. */
 public final class GameTests {
+    /** Leaves nothing as at first: each has taken the pile, there are cards in it, player 1 owes 3. */
+    private static final String STIRRED = "game 1 2;hand 0 1 0 0 0 3;hand 1 0 1 0 0;lay 8;";
+
     private GameTests() {
     }
 
@@ -35,21 +38,25 @@ public final class GameTests {
     }
 
     private static void game() {
-        BeggarPile x = Check.told("game 1 2;hand 0 1 0 0;hand 1 0 5 0;lay 1;");
+        BeggarPile x = Check.told(STIRRED);
         x.note(1, 1);
         x.mark(0, 2, 1, 1);
         x.lays(1);
         x.luck(0, 1);
         x.image(1);
         long above = x.part(0);
-        Check.due("game(3, 4) with cards in hands and pile", x.game(3, 4), 6);
+        int[] stirred = {2, 3, 4, 1, 3, 9, 1, 1, 1, 2, 1, 1, 1};
+        for (int what = 0; what <= 12; what++) {
+            Check.due("ahead of game: count(" + what + ")", x.count(what), stirred[what]);
+        }
+        Check.due("game(3, 4) with cards in hands and pile", x.game(3, 4), 9);
         for (int what = 0; what <= 12; what++) {
             Check.due("behind game: count(" + what + ")", x.count(what), what == 8 ? 3 : what == 9 ? 4 : 0);
         }
-        Check.due("game leaves the text", x.count(13), 41);
+        Check.due("game leaves the text", x.count(13), STIRRED.length());
         Check.due("game leaves the fraction", x.part(0), above);
         Check.due("game leaves images", x.from(1), 1);
-        Check.due("the image", x.count(5), 2);
+        Check.due("the image", x.count(5), 9);
     }
 
     private static void gameRefused() {
@@ -130,7 +137,15 @@ public final class GameTests {
     }
 
     private static void readTakesThePlaceOfAllBut() {
-        BeggarPile x = Check.told("game 0 0;hand 0 1;hand 1 0;");
+        BeggarPile x = Check.told(STIRRED);
+        x.lays(1);
+        Check.write(x, STIRRED + "lay 1;");
+        Check.due("read()", x.read(), 5);
+        Check.write(x, "game 0 0;hand 0 1;hand 1 0;");
+        Check.due("read()", x.read(), 3);
+        for (int what = 2; what <= 12; what++) {
+            Check.due("nothing of the one before: count(" + what + ")", x.count(what), 0);
+        }
         x.image(0);
         x.note(1, 1);
         x.mark(0, 1, 0, 0);
@@ -159,6 +174,7 @@ public final class GameTests {
         right("game 0 1;hand 0 0 0;hand 1 1 4;lay 3;", 4, "", "4010", "");
         right("game 0 0;hand 0 0 0 0 0 0 0 0 0;hand 1 0 0 0 0 0 0 0 0;lay 1;", 4, "0000000", "00000000", "0");
         right("game 0 0;hand 0 1;hand 1 0;lay 99;lay 1;", 5, "0", "", "1");
+        right("game 0 0;hand 0 0 0 0 0 0 0 0 0;hand 1 0 0 0 0 0 0 0 0;lay 12;", 4, "00", "00", "000000000000");
     }
 
     private static void right(String text, int items, String zero, String one, String pile) {
@@ -184,6 +200,15 @@ public final class GameTests {
         fault("game 0 0;lay 7", 14);
         fault("gam 0 0;", 0);
         fault("gamee 0 0;", 0);
+        fault("name 0 0;", 0);
+        fault("gama 0 0;", 0);
+        fault("game 0 0;land 0 1;", 9);
+        fault("game 0 0;may 1;", 9);
+        fault("game 0 0;handz 0 1;", 9);
+        fault("game 0 0;hand{ 0 1;", 13);
+        fault("game 0 0;hand` 0 1;", 13);
+        fault("game 0 0;lay 1:;", 14);
+        fault("game 0 0;lay 1/;", 14);
         fault(" Game 0 0;", 1);
         fault("gaMe 0 0;", 0);
         fault("hand 0 1;game 0 0;", 0);

@@ -140,6 +140,15 @@ public final class GuessTests {
         Check.due("against(0)", x.against(0), 10);
         Check.due("against(3)", x.against(3), 13);
         Check.due("against(18)", x.against(18), -5);
+        x = Check.told("game 0 0;hand 0 0 2 0 0 0 5;hand 1 0 2 2 0 0;");
+        Check.due("against(-1), some games being endless", x.against(-1), 1);
+        Check.due("against(0)", x.against(0), 21);
+        x = Check.told("game 0 0;hand 0 0 2 0 0 0 5;hand 1 0 2 5 0 0;");
+        Check.due("against(-1), some games being endless", x.against(-1), 3);
+        Check.due("against(0)", x.against(0), 20);
+        Check.due("against(1)", x.against(1), 21);
+        Check.due("against(2)", x.against(2), 25);
+        Check.due("against(3)", x.against(3), -5);
         x = Check.told("game 2 4;hand 0 0 0 1 2 4 0 0;hand 1 3 0 0 0 0 5 1;");
         Check.due("against(-1), none rests", x.against(-1), 0);
         Check.due("against(0)", x.against(0), -5);

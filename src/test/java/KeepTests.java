@@ -36,6 +36,9 @@ public final class KeepTests {
         Check.due("image(0)", x.image(0), 1);
         x.lays(2);
         x.forget(0);
+        x.note(9, 4);
+        x.forget(1);
+        x.mark(0, 3, 1, 0);
         x.mark(0, 1, 0, 0);
         Check.due("image(1)", x.image(1), 1);
         long other = x.digest();
@@ -78,8 +81,12 @@ public final class KeepTests {
         }
         x.image(1);
         Check.due("undo()", x.undo(), 9);
-        x.lays(5);
-        x.deals(0, 0);
+        x.game(0, 0);
+        x.deals(0, 4);
+        x.deals(1, 4);
+        for (int i = 0; i < 9; i++) {
+            x.exchanges(0, 0);
+        }
         x.from(1);
         Check.due("count(12)", x.count(12), 8);
         for (int moves = 9; moves >= 2; moves--) {

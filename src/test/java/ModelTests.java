@@ -66,7 +66,7 @@ public final class ModelTests {
     }
 
     public static void main(String[] args) throws ReflectiveOperationException {
-        int runs = args.length > 0 ? Integer.parseInt(args[0]) : 150;
+        int runs = args.length > 0 ? Integer.parseInt(args[0]) : 2000;
         long from = args.length > 1 ? Long.parseLong(args[1]) : 1;
         for (long seed = from; seed < from + runs && !Check.anyWrong(); seed++) {
             new ModelTests(seed).run(seed);
