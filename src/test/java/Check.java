@@ -2,8 +2,14 @@
 final class Check {
     private static int asked = 0;
     private static int wrong = 0;
+    private static String about = "";
 
     private Check() {
+    }
+
+    /** What the answers from here on are about: told ahead of each that is wrong. */
+    static void about(String what) {
+        about = what;
     }
 
     static void due(String call, long got, long want) {
@@ -11,13 +17,17 @@ final class Check {
         if (got != want) {
             wrong++;
             if (wrong <= 50) {
-                System.out.println(call + " answered " + got + ", due is " + want);
+                System.out.println(about + call + " answered " + got + ", due is " + want);
             }
         }
     }
 
     static void holds(String what, boolean so) {
         due(what, so ? 1 : 0, 1);
+    }
+
+    static int asked() {
+        return asked;
     }
 
     static boolean anyWrong() {
@@ -50,7 +60,8 @@ final class Check {
     /** The cards of a hand (0, 1) or the pile (2) as figures, the first one first. */
     static String row(BeggarPile x, int p) {
         StringBuilder cards = new StringBuilder();
-        for (int place = 0; place < x.count(p); place++) {
+        int size = x.count(p);
+        for (int place = 0; place < size; place++) {
             cards.append(x.card(p, place));
         }
         return cards.toString();

@@ -34,11 +34,12 @@ public final class GoesTests {
         for (int i = 0; i < at.length; i++) {
             at[i] = x.behind(i / 5, i % 5);
         }
+        BeggarPile laid = Check.told(LONG);
         for (int m = 0; m <= 60; m++) {
             for (int what = 0; what <= 4; what++) {
-                Check.due("as laid, behind(" + m + ", " + what + ")", at[5 * m + what], x.count(what));
+                Check.due("as laid, behind(" + m + ", " + what + ")", at[5 * m + what], laid.count(what));
             }
-            x.lays(1);
+            laid.lays(1);
         }
     }
 
