@@ -71,4 +71,20 @@ final class Check {
         String got = row(x, p);
         holds("row " + p + " is '" + got + "', due is '" + want + "'", got.equals(want));
     }
+
+    /** The rows, the turn and the debt. */
+    static void state(BeggarPile x, String zero, String one, String pile, int turn, int debt) {
+        row(x, 0, zero);
+        row(x, 1, one);
+        row(x, 2, pile);
+        due("count(3), turn", x.count(3), turn);
+        due("count(4), debt", x.count(4), debt);
+    }
+
+    /** What count answers from 0 on. */
+    static void counts(BeggarPile x, int... want) {
+        for (int what = 0; what < want.length; what++) {
+            due("count(" + what + ")", x.count(what), want[what]);
+        }
+    }
 }

@@ -24,10 +24,7 @@ public final class EdgeGameTests {
     }
 
     private static void allNumbersAreZero() {
-        BeggarPile x = new BeggarPile();
-        for (int what = 0; what <= 13; what++) {
-            Check.due("count(" + what + ")", x.count(what), 0);
-        }
+        Check.counts(new BeggarPile(), 0, 0, 0, 0, 0, 0, 0, 0, 0, 0, 0, 0, 0, 0);
     }
 
     private static void noCards() {
@@ -71,10 +68,7 @@ public final class EdgeGameTests {
     /** So that a call which brings one of these back to what it was at first is found out. */
     private static void theStirredSceneIsStirred() {
         BeggarPile x = Scenes.stirred();
-        int[] want = {3, 4, 5, 1, 4, 18, 2, 2, 3, 1, 2, 3, 6, 41};
-        for (int what = 0; what < want.length; what++) {
-            Check.due("count(" + what + ")", x.count(what), want[what]);
-        }
+        Check.counts(x, 3, 4, 5, 1, 4, 18, 2, 2, 3, 1, 2, 3, 6, 41);
         Check.due("part(0)", x.part(0), 5);
         Check.due("part(1)", x.part(1), 6);
         Check.due("status(0)", x.status(0), 3);
@@ -123,9 +117,7 @@ public final class EdgeGameTests {
     private static void allElseAsAtFirst() {
         BeggarPile x = Scenes.stirred();
         Check.due("game(5, 0)", x.game(5, 0), 12);
-        for (int what = 0; what <= 12; what++) {
-            Check.due("count(" + what + ")", x.count(what), what == 8 ? 5 : 0);
-        }
+        Check.counts(x, 0, 0, 0, 0, 0, 0, 0, 0, 5, 0, 0, 0, 0);
         Check.due("is()", x.is(), 63);
         Check.due("kinds(1)", x.kinds(1), 63);
         Check.due("undo()", x.undo(), BeggarPile.NO);

@@ -16,14 +16,6 @@ public final class EdgeLayTests {
         Edge.end("EdgeLayTests", 8, 11);
     }
 
-    private static void state(BeggarPile x, String zero, String one, String pile, int turn, int debt) {
-        Check.row(x, 0, zero);
-        Check.row(x, 1, one);
-        Check.row(x, 2, pile);
-        Check.due("count(3), turn", x.count(3), turn);
-        Check.due("count(4), debt", x.count(4), debt);
-    }
-
     private static void taken(BeggarPile x, int zero, int one) {
         Check.due("count(6), taken", x.count(6), zero);
         Check.due("count(7), taken", x.count(7), one);
@@ -105,7 +97,7 @@ public final class EdgeLayTests {
     private static void takenToTheEnd() {
         BeggarPile x = Scenes.spent();
         taken(x, 1666, 1667);
-        state(x, "1", "00100", "", 1, 0);
+        Check.state(x, "1", "00100", "", 1, 0);
         x.undo();
         taken(x, 1660, 1660);
         x = Scenes.at(9998);
@@ -128,18 +120,18 @@ public final class EdgeLayTests {
     private static void noDebt() {
         BeggarPile x = Scenes.dealt("00", "00", "00");
         x.lays(1);
-        state(x, "0", "00", "0", 1, 0);
+        Check.state(x, "0", "00", "0", 1, 0);
         x.lays(1);
-        state(x, "0", "0", "00", 0, 0);
+        Check.state(x, "0", "0", "00", 0, 0);
         x.lays(2);
-        state(x, "", "", "0000", 0, 0);
+        Check.state(x, "", "", "0000", 0, 0);
         taken(x, 0, 0);
     }
 
     private static void paying() {
         BeggarPile x = Scenes.dealt("00", "40", "00000");
         x.lays(1);
-        state(x, "0", "00000", "4", 1, 4);
+        Check.state(x, "0", "00000", "4", 1, 4);
         for (int debt = 3; debt >= 1; debt--) {
             x.lays(1);
             Check.due("count(4)", x.count(4), debt);
@@ -147,49 +139,49 @@ public final class EdgeLayTests {
             taken(x, 0, 0);
         }
         x.lays(1);
-        state(x, "040000", "0", "", 0, 0);
+        Check.state(x, "040000", "0", "", 0, 0);
         taken(x, 1, 0);
     }
 
     private static void theLastOnePaid() {
         BeggarPile x = Scenes.dealt("00", "1", "0");
         x.lays(1);
-        state(x, "", "0", "1", 1, 1);
+        Check.state(x, "", "0", "1", 1, 1);
         x.lays(1);
-        state(x, "10", "", "", 0, 0);
+        Check.state(x, "10", "", "", 0, 0);
         taken(x, 1, 0);
         x = Scenes.dealt("00", "00", "1");
         x.lays(2);
-        state(x, "0", "", "01", 0, 1);
+        Check.state(x, "0", "", "01", 0, 1);
         x.lays(1);
-        state(x, "", "010", "", 1, 0);
+        Check.state(x, "", "010", "", 1, 0);
         taken(x, 0, 1);
     }
 
     private static void courtForCourt() {
         BeggarPile x = Scenes.dealt("00", "40", "00010");
         x.lays(4);
-        state(x, "0", "10", "4000", 1, 1);
+        Check.state(x, "0", "10", "4000", 1, 1);
         x.lays(1);
-        state(x, "0", "0", "40001", 0, 1);
+        Check.state(x, "0", "0", "40001", 0, 1);
         taken(x, 0, 0);
         x.lays(1);
-        state(x, "", "0400010", "", 1, 0);
+        Check.state(x, "", "0400010", "", 1, 0);
         taken(x, 0, 1);
         x = Scenes.dealt("00", "12", "34");
         x.lays(2);
-        state(x, "2", "4", "13", 0, 3);
+        Check.state(x, "2", "4", "13", 0, 3);
         x.lays(1);
-        state(x, "", "4", "132", 1, 2);
+        Check.state(x, "", "4", "132", 1, 2);
         x.lays(1);
-        state(x, "", "", "1324", 0, 4);
+        Check.state(x, "", "", "1324", 0, 4);
         Check.due("won()", x.won(), 1);
     }
 
     private static void payerRunsOut() {
         BeggarPile x = Scenes.dealt("00", "2", "0");
         Check.due("lays(60)", x.lays(60), 2);
-        state(x, "", "", "20", 1, 1);
+        Check.state(x, "", "", "20", 1, 1);
         taken(x, 0, 0);
         Check.due("won()", x.won(), 0);
     }
@@ -199,7 +191,7 @@ public final class EdgeLayTests {
         x.lays(1);
         Check.due("count(0)", x.count(0), 0);
         Check.due("lays(3)", x.lays(3), 3);
-        state(x, "3000", "1", "", 0, 0);
+        Check.state(x, "3000", "1", "", 0, 0);
         Check.due("lays(1)", x.lays(1), 1);
     }
 
@@ -330,9 +322,9 @@ public final class EdgeLayTests {
         Edge.test(9, "EXCHANGE, MOVES being 9999", () -> {
             BeggarPile x = Scenes.spent();
             Check.due("exchanges(0, 0)", x.exchanges(0, 0), 1);
-            state(x, "0", "10100", "", 1, 0);
+            Check.state(x, "0", "10100", "", 1, 0);
             Check.due("undo()", x.undo(), 9999);
-            state(x, "1", "00100", "", 1, 0);
+            Check.state(x, "1", "00100", "", 1, 0);
         });
     }
 
@@ -341,7 +333,7 @@ public final class EdgeLayTests {
             for (int one = 0; one <= 5; one++) {
                 BeggarPile x = Scenes.dealt("00", "" + zero, "" + one);
                 Check.due("exchanges(0, 0)", x.exchanges(0, 0), 10 * one + zero);
-                state(x, "" + one, "" + zero, "", 0, 0);
+                Check.state(x, "" + one, "" + zero, "", 0, 0);
                 Check.due("count(12), like ones too", x.count(12), 1);
             }
         }
@@ -358,7 +350,7 @@ public final class EdgeLayTests {
                 zero.setCharAt(i, one.charAt(j));
                 one.setCharAt(j, card);
                 Check.due("exchanges(" + i + ", " + j + ")", x.exchanges(i, j), due);
-                state(x, zero.toString(), one.toString(), "", 0, 0);
+                Check.state(x, zero.toString(), one.toString(), "", 0, 0);
                 Check.due("count(5)", x.count(5), 0);
             }
         }
@@ -410,7 +402,7 @@ public final class EdgeLayTests {
             Check.due("undo()", x.undo(), then);
             Check.due("count(5)", x.count(5), then);
         }
-        state(x, "110003", "012240", "", 0, 0);
+        Check.state(x, "110003", "012240", "", 0, 0);
         taken(x, 0, 0);
         x = Scenes.at(60);
         Check.due("undo() of 60 moves", x.undo(), 0);
@@ -427,7 +419,7 @@ public final class EdgeLayTests {
             Check.due("undo()", x.undo(), moves);
             BeggarPile laid = Scenes.dealt("31", "110003", "012240");
             laid.lays(moves);
-            state(x, Check.row(laid, 0), Check.row(laid, 1), Check.row(laid, 2), laid.count(3), laid.count(4));
+            Check.state(x, Check.row(laid, 0), Check.row(laid, 1), Check.row(laid, 2), laid.count(3), laid.count(4));
             taken(x, laid.count(6), laid.count(7));
         }
         Check.due("count(12)", x.count(12), 3);

@@ -355,10 +355,7 @@ public final class EdgeTextTests {
         Supplier<BeggarPile> scene = Scenes.telling("game 5 4;hand 1 3 3;hand 0 0 2;lay 2;");
         BeggarPile x = scene.get();
         Check.due("read()", x.read(), 4);
-        int[] want = {1, 1, 2, 0, 3, 2, 0, 0, 5, 4, 0, 0, 0, 37};
-        for (int what = 0; what < want.length; what++) {
-            Check.due("count(" + what + ")", x.count(what), want[what]);
-        }
+        Check.counts(x, 1, 1, 2, 0, 3, 2, 0, 0, 5, 4, 0, 0, 0, 37);
         Check.row(x, 0, "2");
         Check.row(x, 1, "3");
         Check.row(x, 2, "03");
@@ -367,9 +364,7 @@ public final class EdgeTextTests {
         Check.due("undo(), nothing", x.undo(), BeggarPile.NO);
         x = Scenes.telling(GAME).get();
         Check.due("read() of a game without cards", x.read(), 1);
-        for (int what = 0; what <= 12; what++) {
-            Check.due("count(" + what + ")", x.count(what), 0);
-        }
+        Check.counts(x, 0, 0, 0, 0, 0, 0, 0, 0, 0, 0, 0, 0, 0);
     }
 
     private static void takesNotThePlace() {

@@ -154,10 +154,7 @@ public final class GameTests {
         x.lays(61);
         Check.write(x, "game 5 4; hand 1 2 2;");
         Check.due("read()", x.read(), 2);
-        int[] want = {0, 2, 0, 0, 0, 0, 0, 0, 5, 4, 0, 0, 0, 21};
-        for (int what = 0; what < want.length; what++) {
-            Check.due("behind read: count(" + what + ")", x.count(what), want[what]);
-        }
+        Check.counts(x, 0, 2, 0, 0, 0, 0, 0, 0, 5, 4, 0, 0, 0, 21);
         Check.due("the fraction stays", x.part(0), 1);
         Check.due("status stays", x.status(0), 1);
         Check.due("images stay", x.from(0), 1);

@@ -140,10 +140,7 @@ public final class KeepTests {
         x.mark(1, 1, 0, 0);
         x.lays(4);
         x.lays(1);
-        int[] want = {5, 1, 1, 1, 2, 5, 1, 0, 3, 4, 2, 1, 2, 37};
-        for (int what = 0; what < want.length; what++) {
-            Check.due("count(" + what + ")", x.count(what), want[what]);
-        }
+        Check.counts(x, 5, 1, 1, 1, 2, 5, 1, 0, 3, 4, 2, 1, 2, 37);
         Check.due("count(-1)", x.count(-1), BeggarPile.BAD);
         Check.due("count(14)", x.count(14), BeggarPile.BAD);
         Check.due("status(0)", x.status(0), 2);

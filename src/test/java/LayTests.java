@@ -20,33 +20,25 @@ public final class LayTests {
         Check.end("LayTests");
     }
 
-    private static void state(BeggarPile x, String zero, String one, String pile, int turn, int debt) {
-        Check.row(x, 0, zero);
-        Check.row(x, 1, one);
-        Check.row(x, 2, pile);
-        Check.due("turn", x.count(3), turn);
-        Check.due("debt", x.count(4), debt);
-    }
-
     private static void laysStepByStep() {
         BeggarPile x = Check.told("game 0 1;hand 0 0 2 0 0;hand 1 0 0 0 3;");
         Check.due("lays(1)", x.lays(1), 1);
-        state(x, "200", "0003", "0", 1, 0);
+        Check.state(x, "200", "0003", "0", 1, 0);
         Check.due("lays(1)", x.lays(1), 1);
-        state(x, "200", "003", "00", 0, 0);
+        Check.state(x, "200", "003", "00", 0, 0);
         Check.due("lays(1)", x.lays(1), 1);
-        state(x, "00", "003", "002", 1, 2);
+        Check.state(x, "00", "003", "002", 1, 2);
         Check.due("lays(1)", x.lays(1), 1);
-        state(x, "00", "03", "0020", 1, 1);
+        Check.state(x, "00", "03", "0020", 1, 1);
         Check.due("lays(1)", x.lays(1), 1);
-        state(x, "0000200", "3", "", 0, 0);
+        Check.state(x, "0000200", "3", "", 0, 0);
         Check.due("count(6)", x.count(6), 1);
         Check.due("lays(5)", x.lays(5), 5);
-        state(x, "200", "00030", "", 1, 0);
+        Check.state(x, "200", "00030", "", 1, 0);
         Check.due("count(5)", x.count(5), 10);
         Check.due("count(7)", x.count(7), 1);
         Check.due("lays(60), fewer", x.lays(60), 10);
-        state(x, "00", "", "030020", 1, 1);
+        Check.state(x, "00", "", "030020", 1, 1);
         Check.due("count(5)", x.count(5), 20);
         Check.due("count(6)", x.count(6), 2);
         Check.due("lays(1), done", x.lays(1), BeggarPile.NO);
@@ -91,11 +83,11 @@ public final class LayTests {
     private static void courtAgainstCourt() {
         BeggarPile x = Check.told("game 0 0;hand 0 4 0 1;hand 1 0 0 3 0;");
         x.lays(4);
-        state(x, "01", "0", "4003", 0, 3);
+        Check.state(x, "01", "0", "4003", 0, 3);
         x.lays(2);
-        state(x, "", "0", "400301", 1, 1);
+        Check.state(x, "", "0", "400301", 1, 1);
         x.lays(1);
-        state(x, "4003010", "", "", 0, 0);
+        Check.state(x, "4003010", "", "", 0, 0);
         Check.due("count(6)", x.count(6), 1);
         x.lays(1);
         Check.due("done", x.lays(1), BeggarPile.NO);
@@ -109,12 +101,12 @@ public final class LayTests {
             x.player(1, kind);
             x.player(0, (kind + 1) % 6);
             x.lays(5);
-            state(x, "", five[kind], "", 1, 0);
+            Check.state(x, "", five[kind], "", 1, 0);
             x = Check.told("game 0 0;hand 0 5 3 1;hand 1 4 2 0 0;");
             x.player(0, kind);
             x.player(1, (kind + 1) % 6);
             x.lays(6);
-            state(x, six[kind], "0", "", 0, 0);
+            Check.state(x, six[kind], "0", "", 0, 0);
         }
     }
 
@@ -140,9 +132,9 @@ public final class LayTests {
     private static void exchanges() {
         BeggarPile x = Check.told("game 0 0;hand 0 0 1 2;hand 1 3 4;lay 1;");
         Check.due("exchanges(1, 0)", x.exchanges(1, 0), 32);
-        state(x, "13", "24", "0", 1, 0);
+        Check.state(x, "13", "24", "0", 1, 0);
         Check.due("exchanges(0, 1)", x.exchanges(0, 1), 41);
-        state(x, "43", "21", "0", 1, 0);
+        Check.state(x, "43", "21", "0", 1, 0);
         Check.due("two may be undone", x.count(12), 2);
         Check.due("exchanges(-1, 0)", x.exchanges(-1, 0), BeggarPile.BAD);
         Check.due("exchanges(2, 0)", x.exchanges(2, 0), BeggarPile.BAD);
@@ -162,10 +154,10 @@ public final class LayTests {
         x.lays(2);
         x.exchanges(0, 3);
         Check.due("undo()", x.undo(), 4);
-        state(x, "1", "0100", "0", 0, 0);
+        Check.state(x, "1", "0100", "0", 0, 0);
         Check.due("count(7)", x.count(7), 1);
         Check.due("undo()", x.undo(), 2);
-        state(x, "01", "00", "01", 0, 1);
+        Check.state(x, "01", "00", "01", 0, 1);
         Check.due("count(7)", x.count(7), 0);
         Check.due("notes stay", x.count(10), 1);
         Check.due("undo()", x.undo(), 0);
@@ -188,7 +180,7 @@ public final class LayTests {
         }
         Check.due("a ninth undo()", x.undo(), BeggarPile.NO);
         Check.due("count(5)", x.count(5), 6);
-        state(x, "001", "100", "", 0, 0);
+        Check.state(x, "001", "100", "", 0, 0);
         x.lays(1);
         Check.due("undo()", x.undo(), 6);
     }
