@@ -317,6 +317,7 @@ public final class EdgeGoesTests {
             exchanged(scene("20", "05", "300"), 1, 101, 3);
             exchanged(scene("25", "0010", "2100"), 1, 102, 7);
         });
+        Edge.test(17, "EXCHANGE, CUT: asked one behind the other, none behind one that is", EdgeGoesTests::oneBehindTheOther);
         Edge.test(17, "p WINS within 2000 MOVES soonest, as it is played", () -> {
             for (String[] game : GAMES) {
                 exchangedAsPlayed(scene(game));
@@ -324,6 +325,31 @@ public final class EdgeGoesTests {
             exchangedAsPlayed(Scenes::stirred);
             exchangedAsPlayed(() -> laid(100, LONGEST));
         });
+    }
+
+    /** Hand 0 wins by an exchange and by none of its cuts, hand 1 by no exchange and as it lies. */
+    private static void oneBehindTheOther() {
+        BeggarPile x = Scenes.dealt("00", "0", "1");
+        for (int i = 0; i < 2; i++) {
+            Check.due("exchange(0, 0)", x.exchange(0, 0), 0);
+            Check.due("exchange(0, 1)", x.exchange(0, 1), 3);
+            Check.due("exchange(1, 0)", x.exchange(1, 0), BeggarPile.NONE);
+            Check.due("exchange(1, 1)", x.exchange(1, 1), BeggarPile.NONE);
+            Check.due("cut(1, 0)", x.cut(1, 0), 0);
+            Check.due("cut(1, 1)", x.cut(1, 1), 2);
+            Check.due("cut(0, 0)", x.cut(0, 0), BeggarPile.NONE);
+            Check.due("cut(0, 1)", x.cut(0, 1), BeggarPile.NONE);
+        }
+        for (String[] game : GAMES) {
+            x = Scenes.dealt(game);
+            for (int asked = 0; asked < 16; asked++) {
+                int p = asked / 2 % 2;
+                int what = asked % 2;
+                boolean cut = asked / 4 % 2 == 0;
+                int fresh = cut ? Scenes.dealt(game).cut(p, what) : Scenes.dealt(game).exchange(p, what);
+                Check.due((cut ? "cut" : "exchange") + "(" + p + ", " + what + ")", cut ? x.cut(p, what) : x.exchange(p, what), fresh);
+            }
+        }
     }
 
     private static void exchanged(Supplier<BeggarPile> scene, int p, int which, int moves) {

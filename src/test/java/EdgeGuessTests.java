@@ -414,6 +414,15 @@ public final class EdgeGuessTests {
                 }
             }
         });
+        Edge.test(28, "X by 65536 (cut), X by 1048576 (cut): X just at, just below a multiple, at its least, its most", () -> {
+            int[] seeds = {42627, 47902, 501379, 899870, 241, 959, 0, 518020};
+            String[][] games = {{"00", "01", "01"}, {"24", "0012400", "3000051"}};
+            for (String[] game : games) {
+                for (int seed : seeds) {
+                    Check.due("evenings(" + seed + ", 1)", Scenes.dealt(game).evenings(seed, 1), ByPlay.evenings(game, seed, 1));
+                }
+            }
+        });
         Edge.test(28, "(an empty one stays)", () -> {
             Edge.leavesAll(BeggarPile::new, "evenings(7, 30)", x -> x.evenings(7, 30), 0);
             Edge.leavesAll(() -> Scenes.dealt("00", "0123", ""), "evenings(7, 30)", x -> x.evenings(7, 30), 30);

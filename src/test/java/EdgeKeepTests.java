@@ -102,8 +102,8 @@ public final class EdgeKeepTests {
         x.deals(1, 0);
         x.lays(1);
         x.exchanges(0, 0);
-        x.note(16, 0);
-        x.mark(1, 16, 0, 0);
+        x.note(16, 9);
+        x.mark(1, 16, 7, 9);
         Check.due("from(1)", x.from(1), 1);
         Check.due("digest()", x.digest(), kept);
         Check.due("undo()", x.undo(), moves);

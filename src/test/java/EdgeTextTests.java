@@ -79,11 +79,11 @@ public final class EdgeTextTests {
     }
 
     private static void wordsThatAreNone() {
-        String[] firsts = {"g", "gam", "gamee", "games", "agame", "gaem", "hands", "lays", "a", "z", "gamehand"};
+        String[] firsts = {"g", "gam", "gamee", "gamea", "gamez", "name", "gaze", "agame", "gaem", "hands", "lays", "a", "z", "gamehand"};
         for (String word : firsts) {
             fault(word + " 0 0;", 0);
         }
-        String[] laters = {"h", "han", "handd", "ahand", "l", "la", "layy", "lays", "play", "a", "z", "handlay", "dealt"};
+        String[] laters = {"h", "han", "handa", "handz", "land", "hard", "ahand", "l", "la", "laya", "layz", "may", "lax", "play", "a", "z", "handlay"};
         for (String word : laters) {
             faultBehind(GAME, word + " 0 1;");
         }
