@@ -209,7 +209,7 @@ public final class EdgeLayTests {
     }
 
     private static void owedFor(int kind, int n, int owed) {
-        String zero = "0".repeat((n - 1 + 1) / 2) + (n % 2 == 1 ? String.valueOf(kind) : "");
+        String zero = "0".repeat(n / 2) + (n % 2 == 1 ? String.valueOf(kind) : "");
         String one = "0".repeat((n - 1) / 2) + (n % 2 == 0 ? String.valueOf(kind) : "");
         BeggarPile x = Scenes.dealt("00", zero, one);
         Check.due("lays(" + n + ")", x.lays(n), n);

@@ -18,6 +18,7 @@ public final class LimitTests {
             endsWithin(1, "00", "5", "");
             endsWithin(40, "24", "0012400", "3000051");
             endsWithin(554, "05", "1", "00000020001000");
+            endsWithin(686, "04", "010101", "0010010400");
         });
         Edge.test(15, "FIRST: (1 .. 200)", () -> Check.due("the limit", limit("FIRST_WITHIN"), 200));
         Edge.test(16, "AGAIN: (1 .. 500)", () -> Check.due("the limit", limit("ROUND_WITHIN"), 500));
