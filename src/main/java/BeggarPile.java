@@ -920,8 +920,12 @@ public final class BeggarPile {
         }
 
         int firstTaken(Table start, boolean byWhom) {
+            return takenWithin(start, FIRST_WITHIN, byWhom);
+        }
+
+        private int takenWithin(Table start, int limit, boolean byWhom) {
             table.copyFrom(start);
-            for (int m = 1; m <= FIRST_WITHIN && !table.isDone(); m++) {
+            for (int m = 1; m <= limit && !table.isDone(); m++) {
                 table.move();
                 if (table.row(PILE) == Rows.EMPTY) {
                     return byWhom ? table.turn : m;
@@ -931,8 +935,12 @@ public final class BeggarPile {
         }
 
         int comesRound(Table start) {
+            return roundWithin(start, ROUND_WITHIN);
+        }
+
+        private int roundWithin(Table start, int limit) {
             table.copyFrom(start);
-            for (int m = 1; m <= ROUND_WITHIN && !table.isDone(); m++) {
+            for (int m = 1; m <= limit && !table.isDone(); m++) {
                 table.move();
                 if (table.liesAs(start)) {
                     return m;
