@@ -8,11 +8,12 @@ public final class EdgeGoesTests {
     private static final String[] LONGEST = {"04", "010101", "0010010400"};
     private static final int LONGEST_MOVES = 686;
     /** The longest round which was found. */
-    private static final String[] LONGEST_ROUND = {"44", "000000002040", "20"};
-    private static final int ROUND_MOVES = 242;
+    private static final String[] LONGEST_ROUND = {"22", "5500252", "252500252"};
+    private static final int ROUND_MOVES = 420;
     /** Runs into a round that it does not begin in. */
     private static final String[] INTO_A_ROUND = {"33", "00010000", "0000030"};
     private static final String[][] GAMES = {LONGEST, LONGEST_ROUND, INTO_A_ROUND, Scenes.ENDLESS, {"00", "1", "0"}, {"00", "0", "1"},
+        {"44", "000000002040", "20"}, {"45", "1150551", "1515150"},
         {"20", "342524244152350", "3"}, {"21", "0", "000000000001001"}, {"20", "200020000000041", "0"}, {"20", "12414340", "32002102"},
         {"00", "0000", "0000"}, {"54", "04204204", "53153153"}, {"24", "0012400", "3000051"}, {"52", "000000000000003", "0"},
         {"42", "1", "000000000000004"}, {"11", "5", "0000000004"}, {"53", "00000000000300", "2"}, {"00", "5", ""}, {"00", "", "5"}};
@@ -247,6 +248,8 @@ public final class EdgeGoesTests {
         Edge.test(16, "AGAIN: behind how many MOVES (1 .. 500)", () -> {
             Edge.leavesAll(Scenes::endless, "again()", x -> x.again(), 6);
             Edge.leavesAll(scene(LONGEST_ROUND), "again()", x -> x.again(), ROUND_MOVES);
+            Edge.leavesAll(scene("44", "000000002040", "20"), "again()", x -> x.again(), 242);
+            Edge.leavesAll(scene("45", "1150551", "1515150"), "again()", x -> x.again(), 392);
             for (int moves = 1; moves <= 12; moves++) {
                 Check.due("again() behind " + moves, laid(moves, Scenes.ENDLESS).again(), 6);
             }

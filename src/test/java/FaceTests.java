@@ -114,5 +114,23 @@ public final class FaceTests {
             Check.holds("the source has no " + word, !m.find());
         }
         Check.holds("the source has signs 1 to 127 alone", code.chars().allMatch(c -> c >= 1 && c <= 127));
+        methodsStayShort(code.split("\n"));
+    }
+
+    private static void methodsStayShort(String[] lines) {
+        Pattern head = Pattern.compile("( {4}| {8})(?! |else|for|if|switch|while).*\\) \\{");
+        int methods = 0;
+        for (int i = 0; i < lines.length; i++) {
+            Matcher m = head.matcher(lines[i]);
+            if (m.matches()) {
+                int end = i;
+                while (end < lines.length && !lines[end].equals(m.group(1) + "}")) {
+                    end++;
+                }
+                methods++;
+                Check.holds("some sixty lines at most: " + lines[i].trim(), end - i < 60);
+            }
+        }
+        Check.holds("methods were found", methods > FACE.length);
     }
 }

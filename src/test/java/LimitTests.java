@@ -30,6 +30,7 @@ public final class LimitTests {
             Check.due("the limit", limit("ROUND_WITHIN"), 500);
             roundWithin(6, "42", "001", "100");
             roundWithin(242, "44", "000000002040", "20");
+            roundWithin(420, "22", "5500252", "252500252");
         });
         Edge.end("LimitTests", 13, 16);
     }
